@@ -36,6 +36,7 @@ public final class PromisesTest {
         images();
         counts();
         digests();
+        fullCounts();
         Checks.end("PromisesTest");
     }
 
@@ -776,5 +777,27 @@ public final class PromisesTest {
         PancakePort none = new PancakePort();
         Checks.write(none, "00");
         same("27: without a port", none.digest(), digestOf('0', '0', 0, 0, 0, 0, 1, 0, 0, 0, 0, 0, 2, 0));
+    }
+
+    /** The document's 999 lie beyond the 512 calls that it promises; the class keeps to them all the same. */
+    private static void fullCounts() {
+        PancakePort p = Checks.portOf("00;h22,w22");
+        for (int time = 1; time <= 999; time++) {
+            p.toss(0, 0);
+            p.stir(1);
+            p.morning();
+        }
+        same("11: 999 were thrown", p.count(8), 999);
+        Checks.refused("11: one more", p, () -> p.toss(0, 0), Checks.FULL);
+        same("13: 999 mornings", p.count(5), 999);
+        Checks.refused("13: one more", p, p::morning, Checks.FULL);
+        PancakePort poor = Checks.portOf("00;h22,w22");
+        for (int time = 1; time <= 999; time++) {
+            poor.toss(0, 0);
+            poor.stir(time <= 943 ? 1 : 61);
+        }
+        same("11: batter 4 behind 999", poor.count(3), 4);
+        Checks.refused("11: STATE goes ahead of FULL", poor, () -> poor.toss(1, 0), Checks.STATE);
+        Checks.refused("11: FULL for the other", poor, () -> poor.toss(0, 0), Checks.FULL);
     }
 }
