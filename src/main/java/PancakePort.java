@@ -382,6 +382,11 @@ public final class PancakePort {
         return sleeperCount > 0;
     }
 
+    // A cell is one of a port's square: without a port no number names one.
+    private boolean isCell(int cell) {
+        return hasPort() && cell >= 0 && cell < CELLS;
+    }
+
     private boolean isSleeper(int sleeper) {
         return sleeper >= 0 && sleeper < sleeperCount;
     }
@@ -522,10 +527,6 @@ public final class PancakePort {
     }
 
     // ---- columns, turns and draws
-
-    private static boolean isCell(int cell) {
-        return cell >= 0 && cell < CELLS;
-    }
 
     private static boolean isColumn(int column) {
         return column >= 0 && column < SIDE;

@@ -447,7 +447,7 @@ final class Model {
     }
 
     int who(int cell) {
-        if (noCell(cell)) {
+        if (noPort() || noCell(cell)) {
             return Checks.UNKNOWN;
         }
         int bits = 0;

@@ -594,7 +594,7 @@ public final class PromisesTest {
 
     private static void who() {
         PancakePort none = new PancakePort();
-        same("20: a cell without a port", none.who(35), 0);
+        whoWithoutPort();
         PancakePort p = Checks.portOf("00;t22,t44,t00,t24");
         same("20: northwest", p.who(0), 1 + 4);
         same("20: southeast", p.who(35), 1 + 2 + 8);
@@ -611,6 +611,22 @@ public final class PromisesTest {
             Checks.refused("20: who(" + wrong + ")", p, () -> p.who(wrong), Checks.UNKNOWN);
             same("20: without a port, who(" + wrong + ")", none.who(wrong), Checks.UNKNOWN);
         }
+    }
+
+    private static void whoWithoutPort() {
+        PancakePort p = new PancakePort();
+        for (int cell = 0; cell < 36; cell++) {
+            int asked = cell;
+            Checks.refused("20: without a port, who(" + cell + ")", p, () -> p.who(asked), Checks.UNKNOWN);
+        }
+        Checks.write(p, "00;t2");
+        same("20: a page that is no port", p.port(), Checks.STATE);
+        same("20: is none for who, too", p.who(0), Checks.UNKNOWN);
+        Checks.write(p, "2");
+        same("20: nor is a whole page that isn't read yet", p.who(0), Checks.UNKNOWN);
+        same("20: a port is read", p.port(), 1);
+        same("20: then the cell is named", p.who(0), 1);
+        same("20: and the last one", p.who(35), 1);
     }
 
     private static void seeing() {
