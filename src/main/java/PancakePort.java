@@ -484,6 +484,7 @@ public final class PancakePort {
             }
         }
         plan.solve(need);
+        plan.choose(need);
     }
 
     // ---- where to lie
@@ -957,7 +958,6 @@ public final class PancakePort {
                 put(least, open, (open & ~need) == 0 ? leastPrice(open) : NEVER);
             }
             price = at(least, need);
-            choose(need);
         }
 
         private int leastPrice(int open) {
@@ -970,9 +970,10 @@ public final class PancakePort {
             return best;
         }
 
+        // It goes by what solve() found of the same need.
         // Every toss of a cheapest row covers somebody whom the others don't, so none is in it twice,
         // and the least toss that any cheapest row has stands ahead in the first row.
-        private void choose(int need) {
+        void choose(int need) {
             chosenCount = 0;
             int open = need;
             for (int place = 0; place < MOST_SLEEPERS && open != 0 && price < NEVER; place++) {

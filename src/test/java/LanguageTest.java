@@ -1,6 +1,10 @@
 import java.io.IOException;
 import java.nio.file.Files;
 import java.nio.file.Path;
+import java.util.HashMap;
+import java.util.Map;
+import java.util.Set;
+import java.util.TreeSet;
 import java.util.regex.Matcher;
 import java.util.regex.Pattern;
 
@@ -10,7 +14,7 @@ public final class LanguageTest {
         "\\bthrow\\b", "\\btry\\b", "\\bcatch\\b", "\\bsynchronized\\b", "\\bassert\\b", "->", "::", "@", "\\bimport\\b",
         "\\bpackage\\b", "\\bprotected\\b", "Exact\\(", "\\bSystem\\.(?!arraycopy)", "\\bThread\\b", "\\bRandom\\b",
         "\\bObject\\b", "\\bequals\\(", "\\bhashCode\\b", "\\btoString\\b", "\\bvar\\b", "\\bstatic \\{", "\\bwhile \\(true\\)"};
-    private static final int MOST_LINES = 60, MOST_CLASSES = 12;
+    private static final int MOST_LINES = 60, MOST_CLASSES = 12, DEEPEST = 8, MOST_PARAMETERS = 7;
 
     private LanguageTest() {
     }
@@ -33,14 +37,36 @@ public final class LanguageTest {
     }
 
     private static void methodsStayShort(String code) {
-        Matcher method = Pattern.compile("\\n( +)(?:[\\w\\[\\]]+ )+\\w+\\([^)]*\\) \\{\\n(.*?)\\n\\1\\}", Pattern.DOTALL).matcher(code);
-        int methods = 0;
+        Matcher method = Pattern.compile("\\n( +)(?:[\\w\\[\\]]+ )+(\\w+)\\(([^)]*)\\) \\{\\n(.*?)\\n\\1\\}", Pattern.DOTALL).matcher(code);
+        Map<String, String> bodies = new HashMap<>();
         while (method.find()) {
-            methods++;
-            long lines = method.group(2).lines().count();
-            Checks.same("LANGUAGE: lines of a long method", lines > MOST_LINES ? lines : 0, 0);
+            long lines = method.group(4).lines().count();
+            Checks.same("LANGUAGE: lines of " + method.group(2), lines > MOST_LINES ? lines : 0, 0);
+            int parameters = method.group(3).split(",").length;
+            Checks.same("LANGUAGE: parameters of " + method.group(2), parameters > MOST_PARAMETERS ? parameters : 0, 0);
+            bodies.merge(method.group(2), method.group(4), String::concat);
         }
-        Checks.same("LANGUAGE: methods are found", methods > 50 ? 1 : 0, 1);
+        Checks.same("LANGUAGE: methods are found", bodies.size() > 50 ? 1 : 0, 1);
+        for (String name : bodies.keySet()) {
+            int depth = depth(name, bodies, new TreeSet<>());
+            Checks.same("LANGUAGE: calls open at once, from " + name, depth > DEEPEST ? depth : 0, 0);
+        }
+    }
+
+    /** By names alone: methods of one name are taken as one, and one that calls its own name as calling another once. */
+    private static int depth(String name, Map<String, String> bodies, Set<String> open) {
+        open.add(name);
+        int deepest = 0;
+        Matcher called = Pattern.compile("\\b(\\w+)\\(").matcher(bodies.get(name));
+        while (called.find()) {
+            if (open.contains(called.group(1))) {
+                deepest = Math.max(deepest, 1);
+            } else if (bodies.containsKey(called.group(1))) {
+                deepest = Math.max(deepest, depth(called.group(1), bodies, open));
+            }
+        }
+        open.remove(name);
+        return deepest + 1;
     }
 
     private static int occurrences(String text, String word) {
