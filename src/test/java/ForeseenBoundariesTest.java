@@ -167,9 +167,13 @@ public final class ForeseenBoundariesTest {
         noPlan("17: nor where he moved, as column 4 is the last", p);
         p.move(1, 4);
         plan("17: he moved to where he can be", p, 2, 14, 17);
-        // A mayor who lands in the corner alone can't reach one who lies in it.
+        // Only from a row below the square would a toss land in row 4, only from one above it in row 1.
+        noPlan("17: no cell behind the last", Checks.portOf("40;h02"));
+        noPlan("17: no cell behind the last, of any tosser", Checks.portOf("40;h02,h02,h02,h02"));
+        noPlan("17: no cell ahead of the first", Checks.portOf("15;h42,h42"));
+        same("18: nor in any night", Checks.portOf("40;h02").nights(), Checks.NONE);
         PancakePort m = Checks.portOf("50;m44");
-        noPlan("17: rows 2 to 5, columns 2 to 5", m);
+        noPlan("17: a mayor who lands in columns 2 to 5 covers none in column 0", m);
         PancakePort six = Checks.portOf("00,01,02,10,11,55;w00,w01,w10,w00");
         noPlan("17: five of six can be", six);
         same("18: five of six", six.nights(), Checks.NONE);

@@ -118,6 +118,12 @@ public final class PageBoundariesTest {
             boolean may = letters.indexOf(code) >= 0;
             String longer = text + (char) code;
             same("4: letter " + code + " behind \"" + text + "\"", Checks.faultOf(longer), may ? longer.length() : text.length());
+            PancakePort p = new PancakePort();
+            Checks.write(p, longer);
+            // Of these texts only those are whole that end with a wrist's second digit.
+            boolean whole = may && text.matches(".*[tlwhm][0-4]");
+            same("5: port of \"" + longer + "\"", p.port(), whole ? 1 : Checks.STATE);
+            same("5: how often one was read", p.count(11), whole ? 1 : 0);
         }
     }
 

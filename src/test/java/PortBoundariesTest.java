@@ -290,6 +290,13 @@ public final class PortBoundariesTest {
         PancakePort p = Checks.portOf("55;h00");
         same("7: MOST, if none can be covered", p.tosser(0, 4), 0);
         same("7: none", p.tosser(0, 5), 0);
+        // Only from a row below the square would a toss land in row 4, only from one above it in row 1.
+        PancakePort below = Checks.portOf("40,41,42,43,44,45;h02");
+        same("7: MOST, none beyond the last cell", below.tosser(0, 4), 0);
+        same("7: none beyond it", below.tosser(0, 5), 0);
+        PancakePort above = Checks.portOf("10,11,12,13,14,15;h42");
+        same("7: MOST, none ahead of the first cell", above.tosser(0, 4), 0);
+        same("7: none ahead of it", above.tosser(0, 5), 0);
         PancakePort q = Checks.portOf("55;h22");
         same("7: MOST at the corner", q.tosser(0, 4), 34);
         q.toss(0, 35);
